@@ -426,11 +426,11 @@ public final class GesturePidgin {
     }
 
     private static boolean isMeaning(int meaning) {
-        return isBelow(meaning, MEANINGS);
+        return meaning >= 0 && meaning < MEANINGS;
     }
 
     private static boolean isWord(int word) {
-        return isBelow(word, WORDS);
+        return word >= 0 && word < WORDS;
     }
 
     private static int leastOf(int setting) {
@@ -532,8 +532,9 @@ public final class GesturePidgin {
             int best = NONE;
             int greatest = 0;
             for (int word = 0; word < WORDS; word++) {
-                if (weightOf(meaning, word) > greatest) {
-                    greatest = weightOf(meaning, word);
+                int weight = weightOf(meaning, word);
+                if (weight > greatest) {
+                    greatest = weight;
                     best = word;
                 }
             }
@@ -544,8 +545,9 @@ public final class GesturePidgin {
             int best = NONE;
             int greatest = 0;
             for (int meaning = 0; meaning < MEANINGS; meaning++) {
-                if (weightOf(meaning, word) > greatest) {
-                    greatest = weightOf(meaning, word);
+                int weight = weightOf(meaning, word);
+                if (weight > greatest) {
+                    greatest = weight;
                     best = meaning;
                 }
             }
@@ -606,10 +608,12 @@ public final class GesturePidgin {
         }
     }
 
-    /** The whole state that undo restores. */
+    /** The whole state that undo restores, and what happens in it. */
     private static final class Village {
         private final Speaker[] speakers;
         private final int[] settings;
+        /** A row for counting the users of each word, made once; it is no part of the state. */
+        private final int[] users;
         private int seed;
         private int meetings;
         private int successes;
@@ -622,6 +626,7 @@ public final class GesturePidgin {
                 speakers[number] = new Speaker();
             }
             settings = new int[SETTINGS];
+            users = new int[WORDS];
             settings[GAIN] = 4;
             settings[LOSS] = 1;
             settings[LIFE] = 60;
@@ -830,26 +835,28 @@ public final class GesturePidgin {
         }
 
         int commonWord(int meaning) {
+            countUsers(meaning);
             int best = NONE;
             int most = 0;
             for (int word = 0; word < WORDS; word++) {
-                int users = countUsers(meaning, word);
-                if (users > most) {
-                    most = users;
+                if (users[word] > most) {
+                    most = users[word];
                     best = word;
                 }
             }
             return best;
         }
 
-        private int countUsers(int meaning, int word) {
-            int users = 0;
+        private void countUsers(int meaning) {
+            for (int word = 0; word < WORDS; word++) {
+                users[word] = 0;
+            }
             for (int number = 0; number < MOST_SPEAKERS; number++) {
-                if (speakers[number].present && speakers[number].wordFor(meaning) == word) {
-                    users++;
+                int word = speakers[number].present ? speakers[number].wordFor(meaning) : NONE;
+                if (isWord(word)) {
+                    users[word]++;
                 }
             }
-            return users;
         }
     }
 

@@ -49,6 +49,7 @@ public final class MeetingsTest {
         x.teach(1, 3, 5, 39);
         x.teach(1, 5, 5, 1);
         x.teach(1, 3, 0, 10);
+        x.teach(1, 0, 5, 8);
         long before = x.digest();
         due.is("meet(0, 1, 2)", x.meet(0, 1, 2), 52);
         due.is("said word of the sayer", x.weight(0, 2, 5), 54);
@@ -59,6 +60,7 @@ public final class MeetingsTest {
         due.is("other word of the hearer", x.weight(1, 2, 0), 58);
         due.is("other meaning of the hearer", x.weight(1, 3, 5), 37);
         due.is("other meaning of the hearer, not below 0", x.weight(1, 5, 5), 0);
+        due.is("the first meaning of the hearer", x.weight(1, 0, 5), 6);
         due.is("other word for another meaning stays", x.weight(1, 3, 0), 10);
         due.is("nothing is drawn", x.count(1), 1);
         due.is("meetings", x.count(2), 1);
@@ -200,6 +202,8 @@ public final class MeetingsTest {
         }
         due.is("undo()", x.undo(), 5);
         due.is("one undo for the whole chat", x.digest(), before);
+        x.chat(7);
+        due.is("only the meetings of this chat", x.chat(5), 5);
     }
 
     private static void promise09DrawsOfTwoSpeakers() {
@@ -303,5 +307,9 @@ public final class MeetingsTest {
         due.is("count(5)", x.count(5), 104);
         due.is("one undo for all years", x.undo(), 4);
         due.is("the age before", x.speaker(0, 0), 5);
+        due.is("count(4) undone", x.count(4), 0);
+        due.is("age(1)", x.age(1), 1);
+        due.is("only the children of this call", x.age(6), 1);
+        due.is("all children", x.count(4), 2);
     }
 }
