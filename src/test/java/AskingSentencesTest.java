@@ -53,7 +53,8 @@ public final class AskingSentencesTest {
     }
 
     private static void promise11Speakers() {
-        Due due = doc.promise(11, "Returns a number of the village", "0 for the number of speakers", "Returns the number");
+        Due due = doc.promise(11, "Returns a number of the village", "0 for the number of speakers", "Returns the "
+            + "number");
         GesturePidgin x = new GesturePidgin();
         due.is("nobody", x.count(0), 0);
         for (int speakers = 1; speakers <= 8; speakers++) {
@@ -242,8 +243,8 @@ public final class AskingSentencesTest {
     }
 
     private static void promise14Speakers() {
-        Due due = doc.promise(14, "Returns something about a speaker", "`speaker`: number of the speaker",
-            "Returns the number");
+        Due due = doc.promise(14, "Returns something about a speaker", "`speaker`: number of the speaker", "Returns "
+            + "the number");
         GesturePidgin x = Due.village(8);
         for (int speaker = 0; speaker < 8; speaker++) {
             x.setAge(speaker, 10 + speaker);
@@ -293,8 +294,8 @@ public final class AskingSentencesTest {
     }
 
     private static void promise14Pairs() {
-        Due due = doc.promise(14, "3 for the number of pairs of different meanings for which the speaker has the same "
-            + "word");
+        Due due = doc.promise(14, "3 for the number of pairs of different meanings for which the speaker has the "
+            + "same word");
         GesturePidgin x = Due.village(1);
         due.is("no word is not the same word", x.speaker(0, 3), 0);
         int[] pairs = {0, 1, 3, 6, 10, 15};
@@ -397,8 +398,8 @@ public final class AskingSentencesTest {
     }
 
     private static void promise16TheMeaning() {
-        Due due = doc.promise(16, "Returns the meaning as which a speaker hears a word",
-            "`speaker`: number of the speaker", "`word`: 0 to 13", "Returns the meaning");
+        Due due = doc.promise(16, "Returns the meaning as which a speaker hears a word", "`speaker`: number of the "
+            + "speaker", "`word`: 0 to 13", "Returns the meaning");
         GesturePidgin x = Due.village(8);
         int[] ends = {0, 7};
         for (int speaker : ends) {
@@ -496,8 +497,8 @@ public final class AskingSentencesTest {
     }
 
     private static void promise18Number() {
-        Due due = doc.promise(18, "Returns the number of meanings about which two speakers agree",
-            "`speaker`: number of a speaker", "0: told meaning by meaning", "Returns the number");
+        Due due = doc.promise(18, "Returns the number of meanings about which two speakers agree", "`speaker`: "
+            + "number of a speaker", "0: told meaning by meaning", "Returns the number");
         GesturePidgin x = Due.village(8);
         due.is("none without words", x.agreement(0, 7, 0), 0);
         for (int meaning = 0; meaning < 6; meaning++) {
@@ -563,8 +564,8 @@ public final class AskingSentencesTest {
     }
 
     private static void promise19Understanding() {
-        Due due = doc.promise(19, "Returns the understanding of a speaker by another one",
-            "`speaker`: number of the speaker who says something", "Returns the number");
+        Due due = doc.promise(19, "Returns the understanding of a speaker by another one", "`speaker`: number of the "
+            + "speaker who says something", "Returns the number");
         GesturePidgin x = Due.village(8);
         due.is("none without words", x.understanding(0, 7), 0);
         for (int meaning = 0; meaning < 6; meaning++) {

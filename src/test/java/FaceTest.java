@@ -25,6 +25,8 @@ public final class FaceTest {
     private static final String[] FORBIDDEN = {"throw", "throws", "try", "catch", "finally", "synchronized",
         "assert", "import", "package", "equals", "hashCode", "toString", "record", "native", "volatile"};
 
+    private static final List<String> LIBRARY = List.of("Math.max", "Math.min", "System.arraycopy");
+
     private static final Due due = new Due();
 
     public static void main(String[] args) throws IOException, IllegalAccessException {
@@ -32,7 +34,10 @@ public final class FaceTest {
         constants();
         insideClasses();
         privateNames();
+        sizes();
         words();
+        library();
+        methodLengths();
         due.end();
     }
 
@@ -102,8 +107,28 @@ public final class FaceTest {
         }
     }
 
+    /** Rule 11: seven parameters, twenty fields beside the constants. */
+    private static void sizes() {
+        List<Class<?>> types = new ArrayList<>(List.of(GesturePidgin.class.getDeclaredClasses()));
+        types.add(GesturePidgin.class);
+        for (Class<?> type : types) {
+            int fields = 0;
+            for (Field field : type.getDeclaredFields()) {
+                fields += Modifier.isStatic(field.getModifiers()) ? 0 : 1;
+            }
+            due.is("at most twenty fields in " + type, fields <= 20 ? 1 : 0, 1);
+            for (Method method : type.getDeclaredMethods()) {
+                due.is("at most seven parameters of " + method, method.getParameterCount() <= 7 ? 1 : 0, 1);
+            }
+        }
+    }
+
+    private static String sourceWithoutComments() throws IOException {
+        return Files.readString(SOURCE).replaceAll("(?s)/\\*.*?\\*/", "").replaceAll("//[^\n]*", "");
+    }
+
     private static void words() throws IOException {
-        String source = Files.readString(SOURCE).replaceAll("(?s)/\\*.*?\\*/", "").replaceAll("//[^\n]*", "");
+        String source = sourceWithoutComments();
         for (String word : FORBIDDEN) {
             Matcher matcher = Pattern.compile("\\b" + word + "\\b").matcher(source);
             due.is("'" + word + "' in the source", matcher.find() ? 1 : 0, 0);
@@ -111,5 +136,26 @@ public final class FaceTest {
         due.is("lambdas", source.contains("->") ? 1 : 0, 0);
         due.is("method references", source.contains("::") ? 1 : 0, 0);
         due.is("only plain signs", source.chars().allMatch(c -> c < 128) ? 1 : 0, 1);
+    }
+
+    /** Rule 4: of the library only what stands there. */
+    private static void library() throws IOException {
+        Matcher matcher = Pattern.compile("\\b[A-Z]\\w*\\.\\w+").matcher(sourceWithoutComments());
+        while (matcher.find()) {
+            due.is("the library's " + matcher.group(), LIBRARY.contains(matcher.group()) ? 1 : 0, 1);
+        }
+    }
+
+    /** Rule 11: methods of some sixty lines. */
+    private static void methodLengths() throws IOException {
+        Matcher matcher = Pattern.compile("(?ms)^( {4}| {8})(?! )[^\n;=]*\\([^\n;=]*\\) \\{$.*?^\\1\\}$")
+            .matcher(sourceWithoutComments());
+        int methods = 0;
+        while (matcher.find()) {
+            methods++;
+            String text = matcher.group();
+            due.is("lines of " + text.substring(0, text.indexOf('\n')).strip(), text.lines().count() <= 60 ? 1 : 0, 1);
+        }
+        due.is("methods are found", methods > 80 ? 1 : 0, 1);
     }
 }

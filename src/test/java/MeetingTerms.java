@@ -31,7 +31,8 @@ final class MeetingTerms {
     }
 
     private void sayerAndAnother() {
-        Due due = doc.terms("A meeting has a speaker who says something, another one who hears it, and a meaning");
+        Due due = doc.terms("8, 9", "A meeting has a speaker who says something, another one who hears it, and a "
+            + "meaning");
         GesturePidgin x = Due.village(2);
         x.teach(0, 0, 3, 9);
         x.teach(1, 4, 3, 9);
@@ -44,7 +45,7 @@ final class MeetingTerms {
     }
 
     private void saysTheWord() {
-        Due due = doc.terms("The first one says their word for the meaning");
+        Due due = doc.terms("8", "The first one says their word for the meaning");
         int[] words = {0, 13};
         for (int word : words) {
             GesturePidgin x = Due.village(2);
@@ -58,7 +59,7 @@ final class MeetingTerms {
     }
 
     private void drawsAWord() {
-        Due due = doc.terms("without one a word is drawn (a number below 14)");
+        Due due = doc.terms("8", "without one a word is drawn (a number below 14)");
         int[] drawn = {0, 1, 12, 13};
         for (int word : drawn) {
             GesturePidgin x = Due.village(2);
@@ -74,7 +75,7 @@ final class MeetingTerms {
     }
 
     private void hearsAsTold() {
-        Due due = doc.terms("The second one hears it as told above");
+        Due due = doc.terms("8", "The second one hears it as told above");
         GesturePidgin x = Due.village(2);
         x.teach(0, 2, 5, 9);
         x.teach(0, 0, 5, 99);
@@ -90,7 +91,7 @@ final class MeetingTerms {
     }
 
     private void drawsAMeaning() {
-        Due due = doc.terms("if as nothing, a meaning is drawn (a number below 6)");
+        Due due = doc.terms("8", "if as nothing, a meaning is drawn (a number below 6)");
         for (int meaning = 0; meaning < 6; meaning++) {
             GesturePidgin x = Due.village(2);
             x.teach(0, 2, 5, 9);
@@ -105,7 +106,8 @@ final class MeetingTerms {
     }
 
     private void succeedsOrFails() {
-        Due due = doc.terms("If this is the meaning that was meant, the meeting succeeds, otherwise it fails");
+        Due due = doc.terms("8, 11", "If this is the meaning that was meant, the meeting succeeds, otherwise it "
+            + "fails");
         for (int heard = 0; heard < 6; heard++) {
             GesturePidgin x = Due.village(2);
             x.teach(0, 0, 5, 9);
@@ -121,7 +123,7 @@ final class MeetingTerms {
     }
 
     private void learnsAtLeastOne() {
-        Due due = doc.terms("What a speaker learns is the setting gain, less the age / 20, but at least 1");
+        Due due = doc.terms("8, 14", "What a speaker learns is the setting gain, less the age / 20, but at least 1");
         int[][] ages = {{4, 19, 4}, {4, 20, 3}, {4, 59, 2}, {4, 60, 1}, {4, 79, 1}, {4, 80, 1}, {4, 99, 1},
             {1, 0, 1}, {1, 20, 1}, {1, 99, 1}, {9, 0, 9}, {9, 99, 5}, {5, 80, 1}, {5, 79, 2}};
         for (int[] age : ages) {
@@ -140,7 +142,7 @@ final class MeetingTerms {
     }
 
     private void weightsStayInRange() {
-        Due due = doc.terms("Weights never get below 0 or above 99");
+        Due due = doc.terms("8", "Weights never get below 0 or above 99");
         int[] weights = {95, 96, 98, 99};
         for (int weight : weights) {
             GesturePidgin x = Due.village(2);
@@ -199,16 +201,20 @@ final class MeetingTerms {
     }
 
     private void successGrows() {
-        Due due = doc.terms("If it succeeds: for each of both, the weight of this word for this meaning grows by "
-            + "what this speaker learns");
+        Due due = doc.terms("8", "If it succeeds: for each of both, the weight of this word for this meaning grows "
+            + "by what this speaker learns");
         GesturePidgin x = pair(1);
         due.is("meet(0, 1, 2)", x.meet(0, 1, 2), 52);
         due.is("the one who says it learns 4", x.weight(0, 2, 5), 54);
         due.is("the one who hears it learns 3", x.weight(1, 2, 5), 53);
+        GesturePidgin y = pair(1);
+        due.is("meet(1, 0, 2)", y.meet(1, 0, 2), 52);
+        due.is("the one who says it learns 3", y.weight(1, 2, 5), 53);
+        due.is("the one who hears it learns 4", y.weight(0, 2, 5), 54);
     }
 
     private void successOtherWords() {
-        Due due = doc.terms("all weights of other words for this meaning become less by the loss");
+        Due due = doc.terms("8", "all weights of other words for this meaning become less by the loss");
         int[] losses = {0, 1, 9};
         for (int loss : losses) {
             GesturePidgin x = pair(loss);
@@ -223,8 +229,8 @@ final class MeetingTerms {
     }
 
     private void successOtherMeanings() {
-        Due due = doc.terms("and for the one who hears, all weights of this word for other meanings become less by "
-            + "the loss, too");
+        Due due = doc.terms("8", "and for the one who hears, all weights of this word for other meanings become less "
+            + "by the loss, too");
         int[] losses = {0, 1, 9};
         for (int loss : losses) {
             GesturePidgin x = pair(loss);
@@ -237,8 +243,8 @@ final class MeetingTerms {
     }
 
     private void failureOfTheWord() {
-        Due due = doc.terms("If it fails: the weight of this word for this meaning becomes less by the loss for the "
-            + "one who says it, and grows by 1 for the one who hears it");
+        Due due = doc.terms("8", "If it fails: the weight of this word for this meaning becomes less by the loss for "
+            + "the one who says it, and grows by 1 for the one who hears it");
         int[] losses = {0, 1, 9};
         for (int loss : losses) {
             GesturePidgin x = pair(loss);
@@ -253,7 +259,7 @@ final class MeetingTerms {
     }
 
     private void failureOfTheMeaning() {
-        Due due = doc.terms("and for the one who hears, the weight of this word for the meaning as which it was "
+        Due due = doc.terms("8", "and for the one who hears, the weight of this word for the meaning as which it was "
             + "taken becomes less by the loss");
         int[] losses = {0, 1, 9};
         for (int loss : losses) {
@@ -273,7 +279,7 @@ final class MeetingTerms {
     }
 
     private void oneYearMore() {
-        Due due = doc.terms("When a year passes, the age of each speaker becomes 1 more");
+        Due due = doc.terms("10", "When a year passes, the age of each speaker becomes 1 more");
         GesturePidgin x = Due.village(8);
         x.go(3);
         x.setAge(7, 59);
@@ -288,7 +294,7 @@ final class MeetingTerms {
     }
 
     private void followedByAChild() {
-        Due due = doc.terms("Then, by ascending numbers, each speaker whose age is greater than the life is "
+        Due due = doc.terms("10", "Then, by ascending numbers, each speaker whose age is greater than the life is "
             + "followed by a child, who has the same number, and the age 0");
         GesturePidgin x = Due.village(4);
         x.setAge(0, 59);
@@ -309,8 +315,8 @@ final class MeetingTerms {
     }
 
     private void weightsOfTheChild() {
-        Due due = doc.terms("Each weight of the child is that of the child's teacher, times the share, divided by "
-            + "100");
+        Due due = doc.terms("10", "Each weight of the child is that of the child's teacher, times the share, divided "
+            + "by 100");
         int[] shares = {0, 33, 99, 100};
         for (int share : shares) {
             GesturePidgin x = Due.village(2);
@@ -340,8 +346,8 @@ final class MeetingTerms {
     }
 
     private void theTeacher() {
-        Due due = doc.terms("The teacher is the youngest one of the other speakers who are not older than the life, "
-            + "of several the lowest (children of this year included)");
+        Due due = doc.terms("10", "The teacher is the youngest one of the other speakers who are not older than the "
+            + "life, of several the lowest (children of this year included)");
         due.is("the youngest, behind", ages(99, 31, 30).weight(0, 0, 0), 12);
         due.is("the youngest, ahead", ages(30, 31, 99).weight(2, 0, 0), 10);
         due.is("of several the lowest", ages(31, 30, 30, 99, 30).weight(3, 0, 0), 11);
@@ -362,7 +368,7 @@ final class MeetingTerms {
     }
 
     private void withoutATeacher() {
-        Due due = doc.terms("without a teacher all weights are 0");
+        Due due = doc.terms("10", "without a teacher all weights are 0");
         GesturePidgin alone = ages(60);
         due.is("alone", alone.weight(0, 0, 0), 0);
         due.is("alone, the age", alone.speaker(0, 0), 0);
@@ -379,7 +385,7 @@ final class MeetingTerms {
     }
 
     private void agreement() {
-        Due due = doc.terms("Two speakers agree about a meaning if both have the same word for it");
+        Due due = doc.terms("18", "Two speakers agree about a meaning if both have the same word for it");
         GesturePidgin x = Due.village(2);
         due.is("without words", x.agreement(0, 1, 0), 0);
         x.teach(0, 0, 0, 1);
@@ -400,8 +406,8 @@ final class MeetingTerms {
     }
 
     private void understanding() {
-        Due due = doc.terms("The understanding of a speaker by another one is the number of meanings for which the "
-            + "first has a word that the second hears as this meaning");
+        Due due = doc.terms("19", "The understanding of a speaker by another one is the number of meanings for which "
+            + "the first has a word that the second hears as this meaning");
         GesturePidgin x = Due.village(2);
         due.is("without words", x.understanding(0, 1), 0);
         x.teach(1, 0, 0, 9);

@@ -214,8 +214,8 @@ public final class MeetingsSentencesTest {
     }
 
     private static void promise9WhoHears() {
-        Due due = doc.promise(9, "one below the number of speakers less 1 tells the one who hears it, in the same way "
-            + "among all others");
+        Due due = doc.promise(9, "one below the number of speakers less 1 tells the one who hears it, in the same "
+            + "way among all others");
         for (int seed = 0; seed < 60; seed++) {
             GesturePidgin x = Due.village(8);
             x.setSeed(seed);

@@ -47,22 +47,23 @@ final class Sentences {
     }
 
     Due promise(int number, String... sentences) {
-        return of("Promise " + number, sentences);
+        return of("Promise " + number, "", sentences);
     }
 
-    Due terms(String... sentences) {
-        return of("Terms", sentences);
+    /** The promises are those that use these words. */
+    Due terms(String promises, String... sentences) {
+        return of("Terms", " for promises " + promises, sentences);
     }
 
     /** Where a test writes what isn't as these sentences, or parts of sentences, of a section say. */
-    Due of(String section, String... sentences) {
+    Due of(String section, String use, String... sentences) {
         for (String sentence : sentences) {
             if (!sections.getOrDefault(section, "").contains(sentence)) {
                 fault("not in the document: " + section + ", \"" + sentence + "\"");
             }
             quotes.getOrDefault(section, new ArrayList<>()).add(sentence);
         }
-        Due due = new Due(section + ", \"" + String.join("\", \"", sentences) + "\": ");
+        Due due = new Due(section + use + ", \"" + String.join("\", \"", sentences) + "\": ");
         dues.add(due);
         return due;
     }

@@ -37,7 +37,8 @@ final class StateTerms {
     }
 
     private void atMostCalls() {
-        Due due = doc.of("What it is", "An object is used for at most 512 calls after it has been made");
+        Due due = doc.of("What it is", " for all promises", "An object is used for at most 512 calls after it has "
+            + "been made");
         GesturePidgin x = Due.village(8);
         int forecast = x.ifChat(200);
         for (int call = 10; call < 512; call++) {
@@ -50,14 +51,15 @@ final class StateTerms {
         }
         due.is("call 512 after as many meetings as there can be", y.count(2), 509 * 200);
         GesturePidgin z = new GesturePidgin();
-        for (int call = 1; call < 512; call++) {
+        for (int call = 1; call < 511; call++) {
             z.setSeed(call);
         }
-        due.is("call 512 after 511 saved states", z.undo(), 5);
+        due.is("call 511 after 510 saved states", z.undo(), 5);
+        due.is("call 512", z.count(1), 509);
     }
 
     private void atMostCharacters() {
-        Due due = doc.terms("There is a text of at most 80 characters, which is empty initially");
+        Due due = doc.terms("24, 25", "There is a text of at most 80 characters, which is empty initially");
         GesturePidgin x = new GesturePidgin();
         due.is("the length initially", x.clearText(), 0);
         due.is("the first fault of the empty text", new GesturePidgin().syntaxError(), 0);
@@ -75,9 +77,9 @@ final class StateTerms {
     }
 
     private void habitList() {
-        Due due = doc.terms("A habit list is a text of the form habit { \";\" habit }, where a habit is the digit of "
-            + "a speaker, 0 to 7, \".\", the digit of a meaning, 0 to 5, \"=\", one to three letters \"w\" (wink) or "
-            + "\"n\" (nod), \"*\", and a weight from 0 to 99 without leading zeros");
+        Due due = doc.terms("26, 27", "A habit list is a text of the form habit { \";\" habit }, where a habit is "
+            + "the digit of a speaker, 0 to 7, \".\", the digit of a meaning, 0 to 5, \"=\", one to three letters "
+            + "\"w\" (wink) or \"n\" (nod), \"*\", and a weight from 0 to 99 without leading zeros");
         String[] lists = {"0.0=w*0", "7.5=nnn*99", "0.0=n*9", "0.0=ww*10", "0.0=wnw*90", "0.0=w*0;0.0=w*0",
             "0.0=w*9;7.5=nnn*99;0.0=w*10", "0.0=w*1;".repeat(8) + "0.0=wwn*99"};
         for (String list : lists) {
@@ -92,8 +94,8 @@ final class StateTerms {
     }
 
     private void savedIfNoErrorCode() {
-        Due due = doc.terms("Methods marked \"Undoable\" save the state from before the call if they return no error "
-            + "code");
+        Due due = doc.terms("2 to 10, 27", "Methods marked \"Undoable\" save the state from before the call if they "
+            + "return no error code");
         saves(due, "come()", GesturePidgin::come);
         saves(due, "go(3)", x -> x.go(3));
         saves(due, "set(0, 1)", x -> x.set(0, 1));
@@ -144,7 +146,7 @@ final class StateTerms {
     }
 
     private void atMostSixStates() {
-        Due due = doc.terms("At most 6 states are saved");
+        Due due = doc.terms("28", "At most 6 states are saved");
         GesturePidgin x = new GesturePidgin();
         due.is("none at first", x.undo(), NOT_POSSIBLE);
         for (int calls = 1; calls < 9; calls++) {
@@ -154,7 +156,7 @@ final class StateTerms {
     }
 
     private void theSeventhState() {
-        Due due = doc.terms("when a seventh one is saved, the oldest one is discarded");
+        Due due = doc.terms("28", "when a seventh one is saved, the oldest one is discarded");
         GesturePidgin x = new GesturePidgin();
         for (int seed = 10; seed < 16; seed++) {
             x.setSeed(seed);
@@ -177,8 +179,8 @@ final class StateTerms {
     }
 
     private void whatTheStateIs() {
-        Due due = doc.terms("The state is everything, the seed and all counts included, except the text and the "
-            + "saved states");
+        Due due = doc.terms("28", "The state is everything, the seed and all counts included, except the text and "
+            + "the saved states");
         GesturePidgin x = Due.village(2);
         x.setAge(1, 60);
         x.setSeed(77);
@@ -191,6 +193,7 @@ final class StateTerms {
         due.is("children", x.count(4), 0);
         due.is("age", x.speaker(1, 0), 60);
         due.is("meetings", x.count(2), 200);
+        due.is("meetings of a speaker", x.speaker(0, 4), 200);
         due.is("undo() of the meetings", x.undo(), 4);
         due.is("seed", x.count(1), 77);
         due.is("meetings", x.count(2), 0);
@@ -252,8 +255,8 @@ final class StateTerms {
     }
 
     private void refusedCallsChangeNothing() {
-        Due due = doc.terms("A call that returns NO_SUCH, BAD_VALUE, NOT_POSSIBLE, LIMIT or BAD_TEXT changes "
-            + "nothing");
+        Due due = doc.terms("2 to 24, 27, 28", "A call that returns NO_SUCH, BAD_VALUE, NOT_POSSIBLE, LIMIT or "
+            + "BAD_TEXT changes nothing");
         eachRefusal((call, refusal, code) -> due.refuses(Look::rich, call, refusal, code));
         due.refuses(Look::full, "come()", GesturePidgin::come, LIMIT);
         due.refuses(Look::full, "type(48)", x -> x.type(48), LIMIT);
@@ -264,7 +267,8 @@ final class StateTerms {
     }
 
     private void theFirstOfSeveral() {
-        Due due = doc.terms("If several of them apply, the one that is named first in the @return line is returned");
+        Due due = doc.terms("4, 6 to 9, 14, 17, 18, 21, 22, 24", "If several of them apply, the one that is named "
+            + "first in the @return line is returned");
         GesturePidgin x = Look.rich();
         due.is("set: setting and value", x.set(4, 10), NO_SUCH);
         due.is("set: setting and value", x.set(-1, -1), NO_SUCH);
@@ -296,7 +300,7 @@ final class StateTerms {
     }
 
     private void noneIsNoErrorCode() {
-        Due due = doc.terms("NONE is not an error code");
+        Due due = doc.terms("15 to 17, 20, 23, 26", "NONE is not an error code");
         Supplier<GesturePidgin> made = () -> {
             GesturePidgin x = Due.village(1);
             Due.typeText(x, "0.0=w*1");
@@ -312,7 +316,8 @@ final class StateTerms {
     }
 
     private void noSuch() {
-        Due due = doc.terms("`NO_SUCH = -1`: There is no such speaker, meaning, word, gesture or setting");
+        Due due = doc.terms("3, 4, 17, 20", "`NO_SUCH = -1`: There is no such speaker, meaning, word, gesture or "
+            + "setting");
         GesturePidgin x = Due.village(1);
         due.is("speaker", x.go(1), -1);
         due.is("meaning", x.common(6), -1);
@@ -322,7 +327,7 @@ final class StateTerms {
     }
 
     private void badValue() {
-        Due due = doc.terms("`BAD_VALUE = -2`: Another argument is out of its range");
+        Due due = doc.terms("6, 10", "`BAD_VALUE = -2`: Another argument is out of its range");
         GesturePidgin x = Due.village(1);
         due.is("weight", x.teach(0, 0, 0, 100), -2);
         due.is("years", x.age(0), -2);
@@ -330,32 +335,32 @@ final class StateTerms {
     }
 
     private void notPossible() {
-        Due due = doc.terms("`NOT_POSSIBLE = -3`: The call is not possible in the present state");
+        Due due = doc.terms("9, 28", "`NOT_POSSIBLE = -3`: The call is not possible in the present state");
         due.is("undo()", new GesturePidgin().undo(), -3);
         due.is("chat(1)", new GesturePidgin().chat(1), -3);
         due.is("NOT_POSSIBLE", GesturePidgin.NOT_POSSIBLE, -3);
     }
 
     private void limit() {
-        Due due = doc.terms("`LIMIT = -4`: A limit would be exceeded");
+        Due due = doc.terms("2", "`LIMIT = -4`: A limit would be exceeded");
         due.is("come()", Due.village(8).come(), -4);
         due.is("LIMIT", GesturePidgin.LIMIT, -4);
     }
 
     private void badText() {
-        Due due = doc.terms("`BAD_TEXT = -5`: The text is not a habit list");
+        Due due = doc.terms("27", "`BAD_TEXT = -5`: The text is not a habit list");
         due.is("learn()", new GesturePidgin().learn(), -5);
         due.is("BAD_TEXT", GesturePidgin.BAD_TEXT, -5);
     }
 
     private void none() {
-        Due due = doc.terms("`NONE = -6`: There is no such result");
+        Due due = doc.terms("20", "`NONE = -6`: There is no such result");
         due.is("common(0)", new GesturePidgin().common(0), -6);
         due.is("NONE", GesturePidgin.NONE, -6);
     }
 
     private void forecastsChangeNothing() {
-        Due due = doc.terms("they change nothing");
+        Due due = doc.terms("21 to 23", "they change nothing");
         for (int i = 0; i < 4; i++) {
             int what = i;
             due.leavesAll(Look::rich, "ifMet(0, 1, 0, " + what + ")", x -> x.ifMet(0, 1, 0, what));

@@ -143,9 +143,10 @@ public final class TextSentencesTest {
         for (int place = 0; place < list.length(); place++) {
             due.is("! at " + place, errorOf(list.substring(0, place) + "!" + list.substring(place + 1)), place);
         }
-        String[] texts = {"8", "-", "7,", "0:", "06", "0.6", "0.-", "0.5:", "0.5w", "0.5=*", "0.5=W", "0.5=wwww",
-            "0.5=wnwn", "0.5=w;", "0.5=w1", "0.5=w**", "0.5=w*;", "0.5=w*-", "0.5=w*00", "0.5=w*09", "0.5=w*100",
-            "0.5=w*999", "0.5=w*0.", "0.5=w*9,", "0.5=w*99:", "0.5=w*9;;", "0.5=w*9;8", "0.5=w*99;."};
+        String[] texts = {"8", "/", "7-", "7/", "06", "0.6", "0./", "0.5<", "0.5>", "0.5=*", "0.5=W", "0.5=m",
+            "0.5=o", "0.5=v", "0.5=x", "0.5=wwww", "0.5=wnwn", "0.5=w;", "0.5=w1", "0.5=w)", "0.5=w+", "0.5=w**",
+            "0.5=w*;", "0.5=w*/", "0.5=w*:", "0.5=w*00", "0.5=w*09", "0.5=w*0/", "0.5=w*9/", "0.5=w*9:", "0.5=w*100",
+            "0.5=w*999", "0.5=w*99:", "0.5=w*99<", "0.5=w*9;;", "0.5=w*9;8", "0.5=w*9;/", "0.5=w*99;."};
         for (String text : texts) {
             due.is(text, errorOf(text), text.length() - 1);
             due.is(text + " and more", errorOf(text + "0.0=w*1"), text.length() - 1);

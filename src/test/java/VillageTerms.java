@@ -32,7 +32,7 @@ final class VillageTerms {
     }
 
     private void numberedFromZero() {
-        Due due = doc.terms("Everything is numbered from 0");
+        Due due = doc.terms("2, 6, 11, 12, 15, 16, 17", "Everything is numbered from 0");
         GesturePidgin x = new GesturePidgin();
         due.is("the first speaker", x.come(), 0);
         due.is("the first weight", x.teach(0, 0, 0, 1), 0);
@@ -49,7 +49,7 @@ final class VillageTerms {
     }
 
     private void divisionsRoundDown() {
-        Due due = doc.terms("All divisions round down (no negative number is ever divided)");
+        Due due = doc.terms("8, 10, 14", "All divisions round down (no negative number is ever divided)");
         GesturePidgin x = Due.village(2);
         int[] ages = {0, 19, 20, 39, 40, 59, 60};
         int[] lost = {0, 0, 1, 1, 2, 2, 3};
@@ -78,7 +78,7 @@ final class VillageTerms {
     }
 
     private void oneToThreeGestures() {
-        Due due = doc.terms("A word is one to three gestures, each a wink or a nod");
+        Due due = doc.terms("17", "A word is one to three gestures, each a wink or a nod");
         GesturePidgin x = new GesturePidgin();
         boolean[] lengths = new boolean[5];
         for (int word = 0; word < 14; word++) {
@@ -97,9 +97,9 @@ final class VillageTerms {
     }
 
     private void fourteenWords() {
-        Due due = doc.terms("There are 14 words, ordered by their length, and those of the same length with a wink "
-            + "before a nod at the first gesture that differs: 0 wink, 1 nod, 2 wink wink, 3 wink nod, 4 nod wink, "
-            + "5 nod nod, 6 wink wink wink, and so on up to 13 nod nod nod");
+        Due due = doc.terms("17", "There are 14 words, ordered by their length, and those of the same length with a "
+            + "wink before a nod at the first gesture that differs: 0 wink, 1 nod, 2 wink wink, 3 wink nod, 4 nod "
+            + "wink, 5 nod nod, 6 wink wink wink, and so on up to 13 nod nod nod");
         GesturePidgin x = new GesturePidgin();
         for (int word = 0; word < WORDS.length; word++) {
             for (int index = 0; index < WORDS[word].length(); index++) {
@@ -111,7 +111,7 @@ final class VillageTerms {
     }
 
     private void atMostEightSpeakers() {
-        Due due = doc.terms("There are at most 8 speakers, with numbers from 0 to 7");
+        Due due = doc.terms("2, 3", "There are at most 8 speakers, with numbers from 0 to 7");
         GesturePidgin x = new GesturePidgin();
         for (int number = 0; number < 8; number++) {
             due.is("come()", x.come(), number);
@@ -125,7 +125,7 @@ final class VillageTerms {
     }
 
     private void newSpeaker() {
-        Due due = doc.terms("a new speaker gets the lowest free number, has the age 0, and no habits");
+        Due due = doc.terms("2", "a new speaker gets the lowest free number, has the age 0, and no habits");
         GesturePidgin x = Due.village(8);
         int[] leavers = {7, 2, 5};
         for (int leaver : leavers) {
@@ -147,8 +147,8 @@ final class VillageTerms {
     }
 
     private void aWeightForEach() {
-        Due due = doc.terms("For each speaker, each of the 6 meanings, 0 to 5, and each word there is a weight, "
-            + "0 to 99");
+        Due due = doc.terms("6, 13", "For each speaker, each of the 6 meanings, 0 to 5, and each word there is a "
+            + "weight, 0 to 99");
         GesturePidgin x = Due.village(1);
         for (int at = 0; at < 84; at++) {
             due.is("teach()", x.teach(0, at / 14, at % 14, 99 - at), 0);
@@ -172,8 +172,8 @@ final class VillageTerms {
     }
 
     private void greatestWeightFirstWord() {
-        Due due = doc.terms("The word of a speaker for a meaning is the one with the greatest weight, of several "
-            + "the first one");
+        Due due = doc.terms("8, 15, 20", "The word of a speaker for a meaning is the one with the greatest weight, "
+            + "of several the first one");
         GesturePidgin x = Due.village(1);
         x.teach(0, 0, 13, 98);
         due.is("the only one", x.wordOf(0, 0), 13);
@@ -189,7 +189,7 @@ final class VillageTerms {
     }
 
     private void noWord() {
-        Due due = doc.terms("a speaker has no word for a meaning for which all weights are 0");
+        Due due = doc.terms("8, 14, 15", "a speaker has no word for a meaning for which all weights are 0");
         GesturePidgin x = Due.village(1);
         for (int meaning = 0; meaning < 6; meaning++) {
             due.is("new: wordOf(0, " + meaning + ")", x.wordOf(0, meaning), GesturePidgin.NONE);
@@ -206,8 +206,8 @@ final class VillageTerms {
     }
 
     private void greatestWeightLowestMeaning() {
-        Due due = doc.terms("A speaker hears a word as the meaning with the greatest weight for it, of several the "
-            + "lowest");
+        Due due = doc.terms("8, 16", "A speaker hears a word as the meaning with the greatest weight for it, of "
+            + "several the lowest");
         GesturePidgin x = Due.village(1);
         x.teach(0, 5, 13, 98);
         due.is("the only one", x.hears(0, 13), 5);
@@ -223,7 +223,7 @@ final class VillageTerms {
     }
 
     private void asNothing() {
-        Due due = doc.terms("or as nothing, if all of them are 0");
+        Due due = doc.terms("8, 16", "or as nothing, if all of them are 0");
         GesturePidgin x = Due.village(1);
         for (int word = 0; word < 14; word++) {
             due.is("new: hears(0, " + word + ")", x.hears(0, word), GesturePidgin.NONE);
@@ -239,7 +239,7 @@ final class VillageTerms {
     }
 
     private void seed() {
-        Due due = doc.terms("There is a seed, 0 to 65535, initially 1");
+        Due due = doc.terms("1, 5, 11", "There is a seed, 0 to 65535, initially 1");
         GesturePidgin x = new GesturePidgin();
         due.is("count(1) of a new village", x.count(1), 1);
         due.is("setSeed(-1)", x.setSeed(-1), OUT);
@@ -253,8 +253,8 @@ final class VillageTerms {
 
     /** The one who hears knows all words as meaning 5, so that the word alone is drawn. */
     private void drawBelow() {
-        Due due = doc.terms("To draw a number below n is to make the seed (25173 * seed + 13849) modulo 65536, and "
-            + "to take (seed / 16) modulo n");
+        Due due = doc.terms("8, 9", "To draw a number below n is to make the seed (25173 * seed + 13849) modulo "
+            + "65536, and to take (seed / 16) modulo n");
         int[] seeds = {0, 1, 2, 65535, 65534, 32768, Chance.before(0), Chance.before(65535), Chance.before(1),
             Chance.before(15), Chance.before(16), Chance.before(16 * 14 - 1), Chance.before(16 * 14),
             Chance.before(16 * 13), Chance.before(65534)};
@@ -284,7 +284,7 @@ final class VillageTerms {
     }
 
     private void gain() {
-        Due due = doc.terms("Settings (number: name, range, initial value): 0: gain, 1 to 9, 4");
+        Due due = doc.terms("1, 4, 12, 14", "Settings (number: name, range, initial value): 0: gain, 1 to 9, 4");
         checkRange(due, 0, 1, 9, 4);
         GesturePidgin x = Due.village(1);
         due.is("learns at first", x.speaker(0, 1), 4);
@@ -295,7 +295,7 @@ final class VillageTerms {
     }
 
     private void loss() {
-        Due due = doc.terms("1: loss, 0 to 9, 1");
+        Due due = doc.terms("1, 4, 8, 12", "1: loss, 0 to 9, 1");
         checkRange(due, 1, 0, 9, 1);
         int[] losses = {0, 1, 9};
         for (int loss : losses) {
@@ -310,7 +310,7 @@ final class VillageTerms {
     }
 
     private void life() {
-        Due due = doc.terms("2: life, 5 to 99, 60");
+        Due due = doc.terms("1, 4, 10, 12", "2: life, 5 to 99, 60");
         checkRange(due, 2, 5, 99, 60);
         int[] lives = {5, 60, 99};
         for (int life : lives) {
@@ -323,7 +323,7 @@ final class VillageTerms {
     }
 
     private void share() {
-        Due due = doc.terms("3: share, 0 to 100 (percent), 50");
+        Due due = doc.terms("1, 4, 10, 12", "3: share, 0 to 100 (percent), 50");
         checkRange(due, 3, 0, 100, 50);
         int[] shares = {0, 1, 50, 99, 100};
         int[] parts = {0, 0, 49, 98, 99};
