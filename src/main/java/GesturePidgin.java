@@ -875,6 +875,9 @@ public final class GesturePidgin {
         }
 
         void keep(Village village) {
+            if (!isBelow(next, MOST_SAVED)) {
+                return;
+            }
             states[next].copyFrom(village);
             next = (next + 1) % MOST_SAVED;
             size = Math.min(MOST_SAVED, size + 1);
@@ -882,12 +885,13 @@ public final class GesturePidgin {
 
         /** Gives the village the state that was saved last and discards that; answers false if there is none. */
         boolean restore(Village village) {
-            if (size < 1) {
+            int last = (next + MOST_SAVED - 1) % MOST_SAVED;
+            if (size < 1 || !isBelow(last, MOST_SAVED)) {
                 return false;
             }
-            next = (next + MOST_SAVED - 1) % MOST_SAVED;
+            village.copyFrom(states[last]);
+            next = last;
             size--;
-            village.copyFrom(states[next]);
             return true;
         }
     }

@@ -8,154 +8,78 @@ import java.nio.file.Path;
 import java.util.ArrayList;
 import java.util.List;
 import java.util.TreeSet;
-import java.util.regex.Matcher;
-import java.util.regex.Pattern;
 
-/** The public face, and those rules of LANGUAGE.md that the source's words and the class's shape show. */
+/** The section "The public face" of the document: its lines and the members of the class are the same. */
 public final class FaceTest {
-    private static final Path SOURCE = Path.of("src/main/java/GesturePidgin.java");
-    private static final String[] FACE = {"come()", "go(int)", "set(int,int)", "setSeed(int)",
-        "teach(int,int,int,int)", "setAge(int,int)", "meet(int,int,int)", "chat(int)", "age(int)", "count(int)",
-        "setting(int)", "weight(int,int,int)", "speaker(int,int)", "wordOf(int,int)", "hears(int,int)",
-        "gesture(int,int)", "agreement(int,int,int)", "understanding(int,int)", "common(int)",
-        "ifMet(int,int,int,int)", "ifChat(int)", "bestSayer(int)", "type(int)", "clearText()", "syntaxError()",
-        "learn()", "undo()", "digest()"};
-    private static final String[] CONSTANTS =
-        {"NO_SUCH", "BAD_VALUE", "NOT_POSSIBLE", "LIMIT", "BAD_TEXT", "NONE"};
-    private static final String[] FORBIDDEN = {"throw", "throws", "try", "catch", "finally", "synchronized",
-        "assert", "import", "package", "equals", "hashCode", "toString", "record", "native", "volatile"};
-
-    private static final List<String> LIBRARY = List.of("Math.max", "Math.min", "System.arraycopy");
-
-    private static final Due due = new Due();
+    private static final Due due = new Due("The public face: ");
 
     public static void main(String[] args) throws IOException, IllegalAccessException {
-        methods();
-        constants();
-        insideClasses();
-        privateNames();
-        sizes();
-        words();
-        library();
-        methodLengths();
+        List<String> lines = lines();
+        due.is("calls and constants of the document", lines.size(), 28 + 6 + 1);
+        TreeSet<String> want = new TreeSet<>(lines);
+        TreeSet<String> got = new TreeSet<>(members());
+        for (String line : want) {
+            due.holds("the class has " + line, got.contains(line));
+        }
+        for (String member : got) {
+            due.holds("the document has " + member, want.contains(member));
+        }
+        due.holds("the class is public and final", GesturePidgin.class.getModifiers()
+            == (Modifier.PUBLIC | Modifier.FINAL));
+        due.holds("it extends nothing", GesturePidgin.class.getSuperclass() == Object.class);
+        classesInside();
         due.end();
     }
 
-    private static void methods() {
-        TreeSet<String> want = new TreeSet<>(List.of(FACE));
-        TreeSet<String> got = new TreeSet<>();
+    /** The document's lines without the names of parameters, as "public int go(int)". */
+    private static List<String> lines() throws IOException {
+        String document = Files.readString(Path.of("../shared/DOC.md"));
+        String face = document.substring(document.indexOf("## The public face"));
+        String code = face.substring(face.indexOf("```java") + 7, face.indexOf("```\n\n"));
+        List<String> lines = new ArrayList<>();
+        for (String line : code.split("\n")) {
+            if (line.endsWith(";")) {
+                lines.add(line.strip().replace(";", "").replaceAll("int \\w+(?=[,)])", "int").replace(" =", ""));
+            }
+        }
+        return lines;
+    }
+
+    /** All members that aren't private, in the same form. */
+    private static List<String> members() throws IllegalAccessException {
+        List<String> members = new ArrayList<>();
+        for (Constructor<?> constructor : GesturePidgin.class.getDeclaredConstructors()) {
+            members.add(words(constructor.getModifiers(), "GesturePidgin", constructor.getParameterTypes()));
+        }
         for (Method method : GesturePidgin.class.getDeclaredMethods()) {
-            if (Modifier.isPrivate(method.getModifiers())) {
-                continue;
-            }
-            due.is("public " + method, Modifier.isPublic(method.getModifiers()) ? 1 : 0, 1);
-            Class<?> type = method.getName().equals("digest") ? long.class : int.class;
-            due.is("type of " + method, method.getReturnType() == type ? 1 : 0, 1);
-            List<String> parameters = new ArrayList<>();
-            for (Class<?> parameter : method.getParameterTypes()) {
-                parameters.add(parameter.getName());
-            }
-            got.add(method.getName() + "(" + String.join(",", parameters) + ")");
+            members.add(words(method.getModifiers(), method.getReturnType() + " " + method.getName(),
+                method.getParameterTypes()));
         }
-        due.is("the face is " + got, got.equals(want) ? 1 : 0, 1);
-        due.is("final", Modifier.isFinal(GesturePidgin.class.getModifiers()) ? 1 : 0, 1);
-        Constructor<?>[] constructors = GesturePidgin.class.getDeclaredConstructors();
-        due.is("constructors", constructors.length, 1);
-        due.is("public constructor", Modifier.isPublic(constructors[0].getModifiers()) ? 1 : 0, 1);
-    }
-
-    private static void constants() throws IllegalAccessException {
-        int at = 0;
         for (Field field : GesturePidgin.class.getDeclaredFields()) {
-            if (Modifier.isPrivate(field.getModifiers())) {
-                continue;
-            }
-            due.is("constant " + field, at < 6 && field.getName().equals(CONSTANTS[at]) ? 1 : 0, 1);
-            due.is("value of " + field, field.getInt(null), -1 - at);
-            due.is("modifiers of " + field, field.getModifiers(),
-                Modifier.PUBLIC | Modifier.STATIC | Modifier.FINAL);
-            at++;
-        }
-        due.is("number of constants", at, 6);
-    }
-
-    private static void insideClasses() {
-        Class<?>[] inside = GesturePidgin.class.getDeclaredClasses();
-        due.is("at most twelve classes", inside.length < 12 ? 1 : 0, 1);
-        for (Class<?> type : inside) {
-            due.is("static " + type, Modifier.isStatic(type.getModifiers()) ? 1 : 0, 1);
-            due.is("not public " + type, Modifier.isPublic(type.getModifiers()) ? 1 : 0, 0);
-            for (Field field : type.getDeclaredFields()) {
-                boolean free = Modifier.isStatic(field.getModifiers()) && !Modifier.isFinal(field.getModifiers());
-                due.is("no static state: " + field, free ? 1 : 0, 0);
+            if (!Modifier.isPrivate(field.getModifiers()) && !field.isSynthetic()) {
+                String value = Modifier.isStatic(field.getModifiers()) ? " " + field.get(null) : "";
+                members.add(Modifier.toString(field.getModifiers()) + " " + field.getType() + " " + field.getName()
+                    + value);
             }
         }
+        members.removeIf(member -> member.startsWith("private "));
+        return members;
     }
 
-    private static void privateNames() {
-        TreeSet<String> names = new TreeSet<>();
-        for (String method : FACE) {
-            names.add(method.substring(0, method.indexOf('(')));
+    private static String words(int modifiers, String name, Class<?>[] parameters) {
+        List<String> types = new ArrayList<>();
+        for (Class<?> parameter : parameters) {
+            types.add(parameter.getName());
         }
-        List<Class<?>> types = new ArrayList<>(List.of(GesturePidgin.class.getDeclaredClasses()));
-        types.add(GesturePidgin.class);
-        for (Class<?> type : types) {
-            for (Method method : type.getDeclaredMethods()) {
-                boolean hidden = type != GesturePidgin.class || Modifier.isPrivate(method.getModifiers());
-                due.is("name of " + method, hidden && names.contains(method.getName()) ? 1 : 0, 0);
-            }
-        }
+        return Modifier.toString(modifiers) + " " + name + "(" + String.join(", ", types) + ")";
     }
 
-    /** Rule 11: seven parameters, twenty fields beside the constants. */
-    private static void sizes() {
-        List<Class<?>> types = new ArrayList<>(List.of(GesturePidgin.class.getDeclaredClasses()));
-        types.add(GesturePidgin.class);
-        for (Class<?> type : types) {
-            int fields = 0;
-            for (Field field : type.getDeclaredFields()) {
-                fields += Modifier.isStatic(field.getModifiers()) ? 0 : 1;
-            }
-            due.is("at most twenty fields in " + type, fields <= 20 ? 1 : 0, 1);
-            for (Method method : type.getDeclaredMethods()) {
-                due.is("at most seven parameters of " + method, method.getParameterCount() <= 7 ? 1 : 0, 1);
-            }
+    private static void classesInside() {
+        for (Class<?> type : GesturePidgin.class.getDeclaredClasses()) {
+            int modifiers = type.getModifiers();
+            due.holds(type + " is private or package-visible", !Modifier.isPublic(modifiers)
+                && !Modifier.isProtected(modifiers));
+            due.holds(type + " is static", Modifier.isStatic(modifiers));
         }
-    }
-
-    private static String sourceWithoutComments() throws IOException {
-        return Files.readString(SOURCE).replaceAll("(?s)/\\*.*?\\*/", "").replaceAll("//[^\n]*", "");
-    }
-
-    private static void words() throws IOException {
-        String source = sourceWithoutComments();
-        for (String word : FORBIDDEN) {
-            Matcher matcher = Pattern.compile("\\b" + word + "\\b").matcher(source);
-            due.is("'" + word + "' in the source", matcher.find() ? 1 : 0, 0);
-        }
-        due.is("lambdas", source.contains("->") ? 1 : 0, 0);
-        due.is("method references", source.contains("::") ? 1 : 0, 0);
-        due.is("only plain signs", source.chars().allMatch(c -> c < 128) ? 1 : 0, 1);
-    }
-
-    /** Rule 4: of the library only what stands there. */
-    private static void library() throws IOException {
-        Matcher matcher = Pattern.compile("\\b[A-Z]\\w*\\.\\w+").matcher(sourceWithoutComments());
-        while (matcher.find()) {
-            due.is("the library's " + matcher.group(), LIBRARY.contains(matcher.group()) ? 1 : 0, 1);
-        }
-    }
-
-    /** Rule 11: methods of some sixty lines. */
-    private static void methodLengths() throws IOException {
-        Matcher matcher = Pattern.compile("(?ms)^( {4}| {8})(?! )[^\n;=]*\\([^\n;=]*\\) \\{$.*?^\\1\\}$")
-            .matcher(sourceWithoutComments());
-        int methods = 0;
-        while (matcher.find()) {
-            methods++;
-            String text = matcher.group();
-            due.is("lines of " + text.substring(0, text.indexOf('\n')).strip(), text.lines().count() <= 60 ? 1 : 0, 1);
-        }
-        due.is("methods are found", methods > 80 ? 1 : 0, 1);
     }
 }

@@ -92,7 +92,7 @@ public final class UndoSentencesTest {
         due.is("refused calls and forecasts save none", y.undo(), GesturePidgin.NOT_POSSIBLE);
     }
 
-    /** The list of which the document tells, as the other calls answer it. */
+    /** The list of which the document tells, as the other calls answer it: for 8 speakers by 197 of the 512 calls. */
     private static List<Integer> list(GesturePidgin x) {
         List<Integer> list = new ArrayList<>();
         for (int what = 0; what < 7; what++) {
@@ -102,8 +102,8 @@ public final class UndoSentencesTest {
             list.add(x.setting(setting));
         }
         for (int speaker = 0; speaker < 8; speaker++) {
-            for (int at = 0; at < 12 && x.speaker(speaker, 0) >= 0; at++) {
-                list.add(at == 0 ? speaker : at < 6 ? x.speaker(speaker, at - 1) : x.wordOf(speaker, at - 6));
+            if (x.speaker(speaker, 0) >= 0) {
+                addSpeaker(x, speaker, list);
             }
         }
         for (int meaning = 0; meaning < 6; meaning++) {
@@ -118,6 +118,16 @@ public final class UndoSentencesTest {
             }
         }
         return list;
+    }
+
+    private static void addSpeaker(GesturePidgin x, int speaker, List<Integer> list) {
+        list.add(speaker);
+        for (int what = 0; what < 5; what++) {
+            list.add(x.speaker(speaker, what));
+        }
+        for (int meaning = 0; meaning < 6; meaning++) {
+            list.add(x.wordOf(speaker, meaning));
+        }
     }
 
     /** The hash without a limit to its size; longValue() of it is what long arithmetic leaves. */
